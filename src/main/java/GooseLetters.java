@@ -323,11 +323,23 @@ public final class GooseLetters {
     }
 
     public int led(int letter, boolean enemy) {
-        return leader(letter, enemy);
+        int first = NONE;
+        if (!isLetter(letter)) {
+            return first;
+        }
+        for (int goose = 0; goose < now.gooseCount; goose++) {
+            int then = now.ofGoose(goose, THEN);
+            boolean sooner = first == NONE || then < now.ofGoose(first, THEN);
+            if (sooner && tells(goose, letter, enemy)
+                    && halvesHad(letter, enemy, then, goose + 1) == BOTH_HALVES) {
+                first = goose;
+            }
+        }
+        return first;
     }
 
     public int answer(int letter) {
-        int goose = leader(letter, false);
+        int goose = led(letter, false);
         if (goose == NONE) {
             return NONE;
         }
@@ -493,22 +505,6 @@ public final class GooseLetters {
         return halves;
     }
 
-    private int leader(int letter, boolean enemy) {
-        int first = NONE;
-        if (!isLetter(letter)) {
-            return first;
-        }
-        for (int goose = 0; goose < now.gooseCount; goose++) {
-            int then = now.ofGoose(goose, THEN);
-            boolean sooner = first == NONE || then < now.ofGoose(first, THEN);
-            if (sooner && tells(goose, letter, enemy)
-                    && halvesHad(letter, enemy, then, goose + 1) == BOTH_HALVES) {
-                first = goose;
-            }
-        }
-        return first;
-    }
-
     /** All that an image keeps, so that going back is one copy. */
     private static final class State {
         private static final int STEPS = 20;
@@ -554,7 +550,7 @@ public final class GooseLetters {
         }
 
         int ofGoose(int goose, int field) {
-            if (!hasGoose(goose) || field < 0 || field >= GOOSE_FIELDS) {
+            if (goose < 0 || goose >= gooseCount || goose >= GEESE || field < 0 || field >= GOOSE_FIELDS) {
                 return NONE;
             }
             return geese[goose * GOOSE_FIELDS + field];
@@ -567,7 +563,7 @@ public final class GooseLetters {
         }
 
         int ofMarket(int market, int field) {
-            if (!hasMarket(market) || field < 0 || field >= MARKET_FIELDS) {
+            if (market < 0 || market >= marketCount || market >= MARKETS || field < 0 || field >= MARKET_FIELDS) {
                 return 0;
             }
             return markets[market * MARKET_FIELDS + field];
@@ -1207,7 +1203,7 @@ public final class GooseLetters {
 
         private void push(long value) {
             if (top >= 0 && top < stack.length) {
-                stack[top] = (int) Math.max(-MOST, Math.min(MOST, value));
+                stack[top] = value > MOST ? MOST : value < -MOST ? -MOST : (int) value;
                 top++;
             }
         }
@@ -1310,6 +1306,7 @@ public final class GooseLetters {
         private final int[] bestSet = new int[SIZE_MOST];
         private final int[] bestChoice = new int[SIZE_MOST];
         private int size = 0;
+        private long scale = 1;
         private int percent = 0;
         private int marketCount = 0;
         private boolean found = false;
@@ -1319,6 +1316,7 @@ public final class GooseLetters {
         /** The size of the PLAN; 0 if there is none. */
         int fewest(State state, Laws laws, int letter, int p) {
             percent = p;
+            scale = 1;
             found = false;
             marketCount = Math.min(MARKETS, state.marketCount);
             for (int goose = 0; goose < GEESE; goose++) {
@@ -1329,6 +1327,7 @@ public final class GooseLetters {
             }
             for (int i = 1; i <= SIZE_MOST; i++) {
                 size = i;
+                scale *= 100;
                 tryGeese(0, 0);
                 if (found) {
                     return size;
@@ -1408,15 +1407,11 @@ public final class GooseLetters {
             }
         }
 
-        private long scale() {
-            return size == 1 ? 100 : size == 2 ? 10000 : 1000000;
-        }
-
         private boolean isEnough(long miss) {
-            return (scale() - miss) * 100 >= percent * scale();
+            return (scale - miss) * 100 >= percent * scale;
         }
 
-        /** In parts of scale(): that they come neither to the whole letter nor to both halves. */
+        /** In parts of scale: that they come neither to the whole letter nor to both halves. */
         private long missOf(int[] chances) {
             long whole = 1;
             long first = 1;
