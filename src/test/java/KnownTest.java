@@ -14,6 +14,8 @@ public final class KnownTest {
         planTies();
         planReady();
         planByLaws();
+        planPatterns();
+        planOfManyGeese();
         Check.finish();
     }
 
@@ -306,5 +308,50 @@ public final class KnownTest {
         due("the butcher of the day there", x.plan(3, 100, 1), 1);
         x.pass(1);
         due("not true", x.plan(3, 1, -1), -2);
+    }
+
+    /** Friends believe each goose one part alone: by two of them the letter is not known often enough. */
+    private static void planPatterns() {
+        int[][] parts = {{0, 0, 0}, {0, 1, 2}, {0, 2, 1}, {1, 0, 2}, {1, 2, 0}, {2, 0, 1}, {2, 1, 0},
+            {1, 1, 2}, {1, 2, 1}, {2, 1, 1}, {1, 2, 2}, {2, 1, 2}, {2, 2, 1}};
+        for (int[] p : parts) {
+            GooseLetters x = new GooseLetters();
+            x.market(1, 9, 9);
+            x.market(1, 4, 5);
+            x.market(1, 4, 6);
+            StringBuilder code = new StringBuilder("code ");
+            int wholes = 0;
+            for (int i = 0; i < 3; i++) {
+                x.goose(1, 1);
+                code.append(i == 0 ? "" : " or ").append("goose=").append(i).append(" and part=").append(p[i]);
+                wholes += p[i] == 0 ? 1 : 0;
+            }
+            Check.text(x, code.append(";").toString());
+            x.by(0);
+            int most = wholes == 3 ? 93 : wholes == 1 ? 74 : 50;
+            due(code + " size", x.plan(0, most, -1), 3);
+            for (int i = 0; i < 3; i++) {
+                due(code + " of " + i, x.plan(0, most, i), 10 + p[i]);
+            }
+            due(code + " too much", x.plan(0, most + 1, -1), -2);
+        }
+    }
+
+    private static void planOfManyGeese() {
+        GooseLetters x = new GooseLetters();
+        for (int i = 0; i < 4; i++) {
+            x.market(1 + i, 8, 9 - i);
+        }
+        for (int i = 0; i < 10; i++) {
+            x.goose(1, 1);
+        }
+        Check.text(x, "butcher greed - goose / 7;");
+        x.by(0);
+        due("the three that are eaten least", x.plan(5, 65, -1), 3);
+        for (int i = 0; i < 10; i++) {
+            due("goose " + i, x.plan(5, 65, i), i < 7 ? -1 : 30);
+        }
+        due("too much", x.plan(5, 66, -1), -2);
+        due("two and the lowest other would be read more", x.plan(5, 60, 0), -1);
     }
 }

@@ -6,6 +6,7 @@ public final class TextTest {
         latestFault();
         faults();
         soundTexts();
+        fullTape();
         depth();
         clauses();
         by();
@@ -168,6 +169,23 @@ public final class TextTest {
             due("text " + bytes, Check.text(x, bytes), 0);
             due("fault of " + bytes, x.fault(0), 0);
         }
+    }
+
+    private static void fullTape() {
+        String full = "ink 150" + times("-1", 146) + ";";
+        due("300 bytes", full.length(), 300);
+        GooseLetters x = new GooseLetters();
+        x.goose(1, 1);
+        due("text of 300 bytes", Check.text(x, full), 0);
+        x.by(0);
+        due("its ink", x.ink(0, 0, 0), 4);
+        fault("ink 150" + times("-1", 146) + " ", 1, 300);
+        fault("ink 1500" + times("-1", 146), 1, 300);
+        fault("ink 150" + times("-1", 146) + "!", 1, 299);
+        fault(times(";", 300), 1, 0);
+        fault(times("a", 300), 1, 0);
+        fault("ink" + times("9", 297), 2, 3);
+        fault("code weight" + times("<=1", 96) + ";", 1, 14);
     }
 
     private static void depth() {
