@@ -1310,6 +1310,7 @@ public final class GooseLetters {
         private int percent = 0;
         private int marketCount = 0;
         private boolean found = false;
+        private boolean foundInSet = false;
         private long bestMiss = 0;
         private int bestOrder = 0;
 
@@ -1382,6 +1383,7 @@ public final class GooseLetters {
         }
 
         private void tryPatterns() {
+            foundInSet = false;
             int count = size >= 0 && size < PATTERN_COUNTS.length ? PATTERN_COUNTS[size] : 0;
             for (int i = 0; i < count && i < PATTERNS.length; i++) {
                 int digits = PATTERNS[i];
@@ -1390,7 +1392,7 @@ public final class GooseLetters {
                     digits /= 10;
                     markets[at] = BEST;
                 }
-                if (isEnough(missOf(friends)) && (!found || missOf(reads) >= bestMiss)) {
+                if (isEnough(missOf(friends)) && (foundInSet || isBetter(missOf(reads)))) {
                     tryMarkets(0);
                 }
             }
@@ -1434,25 +1436,28 @@ public final class GooseLetters {
             return whole * (firstAll * secondAll - (firstAll - first) * (secondAll - second));
         }
 
+        private boolean isBetter(long miss) {
+            return !found || miss > bestMiss;
+        }
+
         private void compare() {
             if (!isEnough(missOf(friends))) {
                 return;
             }
             long miss = missOf(reads);
             int order = 0;
-            boolean sameSet = found;
             for (int i = 0; i < size && i < SIZE_MOST; i++) {
                 order = order * 100 + markets[i] * 10 + parts[i];
-                sameSet = sameSet && bestSet[i] == set[i];
             }
             // Sets come from the lowest up, so of like ones a later set is never better.
-            if (!found || miss > bestMiss || miss == bestMiss && sameSet && order < bestOrder) {
+            if (isBetter(miss) || foundInSet && miss == bestMiss && order < bestOrder) {
                 keep(miss, order);
             }
         }
 
         private void keep(long miss, int order) {
             found = true;
+            foundInSet = true;
             bestMiss = miss;
             bestOrder = order;
             for (int i = 0; i < size && i < SIZE_MOST; i++) {
