@@ -4,6 +4,7 @@ public final class TextTest {
         tape();
         fourTexts();
         latestFault();
+        faultsLeaveNothing();
         faults();
         soundTexts();
         fullTape();
@@ -79,6 +80,27 @@ public final class TextTest {
         due("played by an empty one", x.played(0), -1);
     }
 
+    /** What was read of a text with a fault must leave no trace in the next. */
+    private static void faultsLeaveNothing() {
+        GooseLetters x = new GooseLetters();
+        x.goose(1, 1);
+        x.market(1, 5, 5);
+        for (int i = 0; i < 10; i++) {
+            due("spoilt", Check.text(x, "butcher 1; reader 2; code 1=2; pass 5; ink 1" + times("+1", 100)), -1);
+        }
+        due("text", Check.text(x, "ink 7;"), 0);
+        x.by(0);
+        due("ink", x.ink(0, 0, 0), 7);
+        due("no code", x.of(0, 9), 1);
+        due("nothing is played", x.played(0), -1);
+        due("day", x.about(4), 0);
+        x.store(50, 0);
+        x.fill(0, 0, 0);
+        x.send(0, 0);
+        due("no butcher", x.odds(0, 0, true), 2);
+        due("no reader", x.odds(0, 1, true), 4);
+    }
+
     private static void latestFault() {
         GooseLetters x = new GooseLetters();
         Check.text(x, "ink 1; foo");
@@ -100,6 +122,17 @@ public final class TextTest {
     private static void faults() {
         fault("Butcher 1;", 1, 0);
         fault("inks 1;", 1, 0);
+        fault("inka 1;", 1, 0);
+        fault("inkz 1;", 1, 0);
+        fault("inkA 1;", 1, 0);
+        fault("inkZ 1;", 1, 0);
+        fault("ink@1;", 1, 3);
+        fault("ink[1;", 1, 3);
+        fault("ink`1;", 1, 3);
+        fault("ink{1;", 1, 3);
+        fault("ink 1:;", 1, 5);
+        fault("ink 1" + (char) 11 + ";", 1, 5);
+        fault("ink 1" + (char) 160 + ";", 1, 5);
         fault("ink 1", 1, 5);
         fault("ink 1  \n ", 1, 9);
         fault("ink 1;;", 1, 6);
@@ -253,7 +286,8 @@ public final class TextTest {
         due("above 1000000", value("9999*9999/9999/50"), 2);
         due("above 1000000", value("9999*9999/9999/2"), 50);
         due("below", value("0-(-9999*9999/9999/2)"), 50);
-        due("at each step", value("9999*9999+1-9999*100"), 99);
+        due("at each step", value("9999*9999+1-9999*100-50"), 50);
+        due("at each step below", value("-9999*9999-1+9999*100+150"), 50);
         due("at each step", value("9999*9999*9999*0+4"), 4);
         due("two minus", value("- -5"), 5);
         due("minus of one only", value("-5+9"), 4);
@@ -304,6 +338,9 @@ public final class TextTest {
         due("not before and", isTrue("not 1=2 and 1=2"), false);
         due("and", isTrue("1=1 and 2=2 and 3=4"), false);
         due("or", isTrue("1=2 or 2=1 or 3=3"), true);
+        String deep = "1=2 or 1=1 and 9=" + times("1+1*(", 8) + "1" + times(")", 8);
+        due("much that waits", isTrue(deep), true);
+        due("much that waits", isTrue(deep + "+1"), false);
         due("no quill", isTrue("letter = -1 and part = 0-1"), true);
         due("names", isTrue("goose = 0 and weight = 7 and feathers = 50 and day = 0"), true);
     }
