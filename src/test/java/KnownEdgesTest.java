@@ -37,6 +37,7 @@ public final class KnownEdgesTest {
         planWithoutGeeseOrMarkets();
         planLeastRead();
         planLowestSet();
+        planLowestOfUnlikeSets();
         planLowestChoice();
         planByTheseAlone();
         planBeyondTheLastDay();
@@ -687,6 +688,27 @@ public final class KnownEdgesTest {
         x.name(7);
         due("two are left", x.plan(0, 80, -1), -2);
         due("they are enough for 75", x.plan(0, 75, -1), 2);
+    }
+
+    /** then the lowest set of GEESE: of {0, 3} and {1, 2} that with the lowest goose, as they are compared goose by goose */
+    private static void planLowestOfUnlikeSets() {
+        GooseLetters x = new GooseLetters();
+        x.market(1, 0, 0);
+        int[][] geese = {{5, 4}, {4, 6}, {7, 0}, {5, 1}};
+        for (int[] g : geese) {
+            x.goose(g[0], g[1]);
+        }
+        Check.text(x, "butcher weight; reader feathers;");
+        x.by(0);
+        due("two", x.plan(0, 66, -1), 2);
+        int[] want = {0, -1, -1, 0};
+        for (int goose = 0; goose < want.length; goose++) {
+            due("goose " + goose, x.plan(0, 66, goose), want[goose]);
+        }
+        x.name(0);
+        due("else the other set", x.plan(0, 66, 1), 0);
+        due("else the other set", x.plan(0, 66, 2), 0);
+        due("else the other set", x.plan(0, 66, 3), -1);
     }
 
     /** then the lowest GOOSE's least 10 times the MARKET and the PART, then the next one's, .. */

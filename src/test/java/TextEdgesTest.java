@@ -37,6 +37,9 @@ public final class TextEdgesTest {
         byZero();
         cutsTowardsZero();
         fromTheLeft();
+        comparisons();
+        notAndOr();
+        largestNames();
         inkLimits();
         butcherLimits();
         readerLimits();
@@ -46,6 +49,7 @@ public final class TextEdgesTest {
         dayNames();
         playedNumbers();
         playedUpToTheLast();
+        playedNumbersOfDeeds();
         Check.finish();
     }
 
@@ -688,6 +692,83 @@ public final class TextEdgesTest {
         due("not takes one ask", isTrue("not 1=1 or 1=1"), true);
     }
 
+    /** SUM one of < <= > >= = # (unlike) SUM: just below, alike, just above */
+    private static void comparisons() {
+        String[] signs = {"<", "<=", ">", ">=", "=", "#"};
+        boolean[][] answers = {{true, false, false}, {true, true, false}, {false, false, true}, {false, true, true},
+            {false, true, false}, {true, false, true}};
+        String[][] sums = {{"6", "weight", "8"}, {"-8", "-weight", "0-6"}, {"9999*100+99", "1000*1000", "1000*1000"}};
+        for (int i = 0; i < signs.length; i++) {
+            for (int k = 0; k < 2; k++) {
+                for (int at = 0; at < 3; at++) {
+                    String ask = sums[k][at] + signs[i] + sums[k][1];
+                    due(ask, isTrue(ask), answers[i][at]);
+                    due("not " + ask, isTrue("not " + ask), !answers[i][at]);
+                    due("not not " + ask, isTrue("not not " + ask), answers[i][at]);
+                }
+            }
+            String most = sums[2][0] + signs[i] + sums[2][1];
+            due(most, isTrue(most), answers[i][0]);
+            String alike = "9999*9999" + signs[i] + sums[2][2];
+            due(alike, isTrue(alike), answers[i][1]);
+        }
+    }
+
+    /** EITHER: BOTH {or BOTH}. BOTH: ASK {and ASK}. */
+    private static void notAndOr() {
+        for (int bits = 0; bits < 8; bits++) {
+            boolean a = (bits & 4) != 0;
+            boolean b = (bits & 2) != 0;
+            boolean c = (bits & 1) != 0;
+            String x = a ? "1=1" : "1=2";
+            String y = b ? "2#1" : "2#2";
+            String z = c ? "3>=3" : "3>=4";
+            due("or or " + bits, isTrue(x + " or " + y + " or " + z), a || b || c);
+            due("and and " + bits, isTrue(x + " and " + y + " and " + z), a && b && c);
+            due("or and " + bits, isTrue(x + " or " + y + " and " + z), a || b && c);
+            due("and or " + bits, isTrue(x + " and " + y + " or " + z), a && b || c);
+            due("not or not " + bits, isTrue("not " + x + " or not " + y + " and not " + z), !a || !b && !c);
+        }
+    }
+
+    /** Day 999; goose 9, of weight 20 with 99 feathers, has letter 5; four markets of 9 each. */
+    private static GooseLetters largest(int part) {
+        GooseLetters x = new GooseLetters();
+        for (int i = 0; i < 4; i++) {
+            x.market(9, 9, 9);
+        }
+        for (int i = 0; i < 10; i++) {
+            x.goose(20, 99);
+        }
+        x.store(9999, 0);
+        x.fill(9, 5, part);
+        for (int i = 0; i < 10; i++) {
+            x.pass(99);
+            x.store(9999, 0);
+        }
+        due("the last day", x.pass(9), 999);
+        return x;
+    }
+
+    /** NAMES, each the largest that it can be */
+    private static void largestNames() {
+        GooseLetters x = largest(2);
+        Check.text(x, "code goose=9 and weight=20 and feathers=99 and letter=5 and part=2 and day=999;"
+            + "ink goose+weight/4+feathers/9+letter+part+day/999;");
+        x.by(0);
+        due("true", x.of(9, 9), 1);
+        due("another one is not", x.of(8, 9), 0);
+        due("ink", x.ink(9, 5, 2), 9 + 5 + 11 + 5 + 2 + 1);
+        GooseLetters y = largest(0);
+        Check.text(y, "butcher market+greed+eyes-16; reader market*10+day-1037;");
+        y.by(0);
+        due("there", y.send(9, 3), 1008);
+        due("friends by 3 + 9 + 9 - 16", y.odds(5, 0, false), 1);
+        due("friends by 3 + 9 + 9 - 16", y.odds(5, 0, true), 2);
+        due("the enemy by 30 + 1008 - 1037", y.odds(5, 1, false), 1);
+        due("the enemy by 30 + 1008 - 1037", y.odds(5, 1, true), 20);
+    }
+
     /** ink: 0 at least, 99 at most */
     private static void inkLimits() {
         int[][] inks = {{-9999, 0}, {-1, 0}, {0, 0}, {1, 1}, {98, 98}, {99, 99}, {100, 99}, {9999, 99}};
@@ -865,5 +946,29 @@ public final class TextEdgesTest {
             due("grain " + grain + " is not enough", y.played(0), grain);
             due("steps", y.about(8), grain);
         }
+    }
+
+    /** fill NUMBER with NUMBER part NUMBER ; or send NUMBER to NUMBER ; or fatten NUMBER ;: the largest and the least */
+    private static void playedNumbersOfDeeds() {
+        GooseLetters x = new GooseLetters();
+        for (int i = 0; i < 4; i++) {
+            x.market(6 + i, 0, 0);
+        }
+        for (int i = 0; i < 10; i++) {
+            x.goose(1 + i, 1);
+        }
+        x.store(100, 0);
+        Check.text(x, "fill 9 with 5 part 2; fatten 9; send 9 to 3; fill 0 with 0 part 0; fatten 0; send 0 to 0;"
+            + "fill 7 with 3 part 1; send 7 to 2;");
+        due("played", x.played(0), -1);
+        int[][] want = {{9, 11, 5, 2, 3, 9}, {0, 2, 0, 0, 0, 6}, {7, 8, 3, 1, 2, 8}};
+        for (int[] w : want) {
+            due("weight of " + w[0], x.of(w[0], 0), w[1]);
+            due("letter of " + w[0], x.of(w[0], 2), w[2]);
+            due("part of " + w[0], x.of(w[0], 3), w[3]);
+            due("market of " + w[0], x.of(w[0], 5), w[4]);
+            due("there of " + w[0], x.of(w[0], 6), w[5]);
+        }
+        due("home", x.about(20), 7);
     }
 }
